@@ -1000,13 +1000,13 @@ public final class TabledGoals {
             }
             Arrays.fill(truth, 0L);
             Arrays.fill(stageOf, NONE);
-            growPossible(program);
-            noteStage(0);
             stages = 0;
+            growPossible(program);
+            noteStage(program.predicates);
             while (stages < MOST_ATOMS && growTruth(program)) {
                 growPossible(program);
                 stages++;
-                noteStage(stages);
+                noteStage(program.predicates);
             }
             known = true;
         }
@@ -1029,12 +1029,14 @@ public final class TabledGoals {
             return more;
         }
 
-        private void noteStage(int stage) {
-            for (int a = 0; a < MOST_ATOMS; a++) {
-                int p = a / ATOMS_EACH;
+        private void noteStage(int predicates) {
+            for (int p = 0; p < predicates; p++) {
                 long settled = truth[p] | ~possible[p];
-                if (stageOf[a] == NONE && (settled >>> (a % ATOMS_EACH) & 1) == 1) {
-                    stageOf[a] = stage;
+                for (int a = 0; a < ATOMS_EACH; a++) {
+                    int place = p * ATOMS_EACH + a;
+                    if (stageOf[place] == NONE && (settled >>> a & 1) == 1) {
+                        stageOf[place] = stages;
+                    }
                 }
             }
         }
