@@ -840,8 +840,8 @@ public final class TabledGoals {
         /** Told of each instance that the walk comes through. */
         abstract void end();
 
-        /** Goes through every instance of the clause at hand. */
-        final void throughClause() {
+        final void throughClause(int which) {
+            clause = which;
             loosen();
             body(0);
         }
@@ -849,7 +849,8 @@ public final class TabledGoals {
         /** Goes through the instances of all clauses with a head like a goal. */
         final void throughClausesLike(Program from, int key) {
             program = from;
-            for (clause = 0; clause < program.clauses; clause++) {
+            for (int c = 0; c < program.clauses; c++) {
+                clause = c;
                 loosen();
                 if (program.part(clause, HEAD, PART_PREDICATE) == keyPredicate(key)
                         && fit(keyOne(key), keyTwo(key))) {
@@ -881,7 +882,7 @@ public final class TabledGoals {
             if (two >= 0) {
                 return agree(one, two);
             }
-            if (isVariable(one) && isVariable(two)) {
+            if (one >= -MOST_VARIABLES && two >= -MOST_VARIABLES) {
                 same[-1 - two] = -1 - one;
             }
             return true;
@@ -891,10 +892,6 @@ public final class TabledGoals {
             int now = read(term);
             bind(now, constant);
             return now < 0 || now == constant;
-        }
-
-        private static boolean isVariable(int term) {
-            return term < 0 && term >= -MOST_VARIABLES;
         }
 
         /** A term as it is by now: a constant, or below 0 the variable that stands for it. */
@@ -907,7 +904,7 @@ public final class TabledGoals {
         }
 
         private void bind(int term, int constant) {
-            if (isVariable(term)) {
+            if (term < 0 && term >= -MOST_VARIABLES) {
                 bound[-1 - term] = constant;
             }
         }
@@ -970,9 +967,9 @@ public final class TabledGoals {
             int grown = -1;
             for (int round = 0; round <= MOST_ATOMS && grown != 0; round++) {
                 grownNow = 0;
-                for (clause = 0; clause < program.clauses; clause++) {
-                    if (round == 0 || (program.needs[clause] & grown) != 0) {
-                        throughClause();
+                for (int c = 0; c < program.clauses; c++) {
+                    if (round == 0 || (program.needs[c] & grown) != 0) {
+                        throughClause(c);
                     }
                 }
                 grown = grownNow;

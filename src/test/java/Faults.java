@@ -10,6 +10,8 @@ public final class Faults {
         otherTerms();
         notSafe();
         firstFromTheLeft();
+        moreOnTheTape();
+        fullTape();
         Check.end();
     }
 
@@ -171,6 +173,39 @@ public final class Faults {
         told("p(X):-q(a)", -9, 10);
         told("p(X):-q(a),", -9, 11);
         told("p(X):-q(X),not r(X).", 1, -1);
+    }
+
+    /** What is on the tape behind the text does not tell anything. */
+    private static void part(String tape, int n, int answer, int place) {
+        TabledGoals x = new TabledGoals();
+        Check.bring(x, tape);
+        Check.due("text(" + n + ") of \"" + tape + "\"", () -> x.text(n), answer);
+        Check.due("fault() of " + n + " bytes of \"" + tape + "\"", x::fault, place);
+    }
+
+    private static void moreOnTheTape() {
+        part("p:-q.", 2, -9, 1);
+        part("p:-q.", 3, -9, 3);
+        part("p     .", 3, -9, 3);
+        part("p.     ", 3, 1, -1);
+        part("p.abcdefghi.", 10, -9, 10);
+        part("p:-not q.", 6, -9, 6);
+        part("p:-notq.r", 6, -9, 6);
+        part("p(a).", 0, 0, -1);
+    }
+
+    private static void fullTape() {
+        told(" ".repeat(400), 0, -1);
+        told(" ".repeat(399) + "p", -9, 400);
+        told(" ".repeat(398) + "p.", 1, -1);
+        told(" ".repeat(398) + "p:", -9, 399);
+        told(" ".repeat(397) + "p:-", -9, 400);
+        told(" ".repeat(394) + "p:-not", -9, 400);
+        told(" ".repeat(395) + "p:-no", -9, 400);
+        told(" ".repeat(391) + "abcdefghi", -8, 391);
+        told(" ".repeat(392) + "abcdefgh", -9, 400);
+        told(" ".repeat(398) + "p(", -9, 400);
+        told(" ".repeat(397) + "p(X", -9, 400);
     }
 
     private static void firstFromTheLeft() {
