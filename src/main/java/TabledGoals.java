@@ -1090,13 +1090,10 @@ public final class TabledGoals {
         }
 
         void end() {
-            if (count == wanted) {
-                keep();
-            }
             count++;
-        }
-
-        private void keep() {
+            if (count - 1 != wanted) {
+                return;
+            }
             foundClause = clause;
             delayedCount = 0;
             for (int l = 0; l < program.sizes[clause] && l < MOST_LITERALS; l++) {
