@@ -18,6 +18,7 @@ public final class EdgesOfGoals {
         leaderByLeader();
         ofOneLeaderByNumbers();
         leftAheadOfTheNext();
+        callsOfStaleOnes();
         freshAheadNone();
         answersAsTheyWere();
         answersInOrder();
@@ -308,6 +309,28 @@ public final class EdgesOfGoals {
         x.ask(0, 0, 0);
         completedAre(e, x, 2, 0, 1);
         e.due("p's leader is q now", () -> x.table(1, 7), 0);
+    }
+
+    /** A table that is stale has the calls that it has until it is made anew itself. */
+    private static void callsOfStaleOnes() {
+        Edge e = new Edge("is made anew (same number): FRESH, with its CALLS");
+        TabledGoals x = Check.told("p:-g,q.q:-p.g.");
+        // p 0, g 1, q 2: p and q are a circle
+        x.ask(0, 0, 0);
+        e.due("q's leader", () -> x.table(2, 7), 0);
+        e.due("g goes: all are stale", () -> x.retract(1, 0, 0), 3);
+        e.due("p still calls g and q", () -> x.table(0, 8), 2);
+        e.due("q's leader is still p", () -> x.table(2, 7), 0);
+        e.due("q still calls p", () -> x.table(0, 12), 1);
+        e.due("p still calls q", () -> x.table(2, 12), 1);
+        x.ask(0, 0, 0);
+        completedAre(e, x, 1, 0);
+        e.due("q is left stale", () -> x.table(2, 3), 0);
+        e.due("p calls g alone now", () -> x.table(0, 8), 1);
+        e.due("no circle now: q's leader", () -> x.table(2, 7), 2);
+        e.due("stale q still calls p", () -> x.table(0, 12), 1);
+        e.due("none calls q now", () -> x.table(2, 12), 0);
+        e.due("q comes to p by that: p's and g's alone are new", () -> x.assume(1, 0, 0), 2);
     }
 
     private static void freshAheadNone() {

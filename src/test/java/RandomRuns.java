@@ -16,7 +16,8 @@ public final class RandomRuns {
 
     public static void main(String[] args) {
         int runs = args.length > 1 ? Integer.parseInt(args[1]) : 1500;
-        for (int seed = 0; seed < runs && Check.allRight(); seed++) {
+        int first = args.length > 2 ? Integer.parseInt(args[2]) : 0;
+        for (int seed = first; seed < first + runs && Check.allRight(); seed++) {
             new RandomRuns(seed).go();
         }
         Check.end();
@@ -28,6 +29,7 @@ public final class RandomRuns {
         for (int i = 0; i < calls && right; i++) {
             anyCall();
         }
+        lookAtAll();
         if (!right) {
             int from = Math.max(0, run.size() - 60);
             for (String line : run.subList(from, run.size())) {
@@ -242,6 +244,9 @@ public final class RandomRuns {
                     int i = k;
                     same("completed(" + i + ")", () -> x.completed(i), () -> y.completed(i));
                 }
+                if (below(10) == 0) {
+                    lookAtAll();
+                }
                 break;
         }
     }
@@ -283,6 +288,64 @@ public final class RandomRuns {
                 same("condition" + args + ", " + j + ", " + oddL, () -> x.condition(p, one, two, j, oddL),
                         () -> y.condition(p, one, two, j, oddL));
                 break;
+            }
+        }
+    }
+
+    // ------------------------------------------------------------ all at the end of a run
+
+    private void lookAtAll() {
+        for (int t = 0; t < y.told(4) && right; t++) {
+            lookAtTable(t);
+        }
+        for (int k = 0; k <= y.told(4) && right; k++) {
+            int i = k;
+            same("completed(" + i + ")", () -> x.completed(i), () -> y.completed(i));
+        }
+        for (int p = 0; p < y.told(0) && right; p++) {
+            int terms = y.predicate(p, 0);
+            for (int one = 0; one < (terms > 0 ? y.told(1) : 1); one++) {
+                for (int two = 0; two < (terms > 1 ? y.told(1) : 1) && right; two++) {
+                    lookAtAtom(p, one, two);
+                }
+            }
+        }
+        same("print()", x::print, y::print);
+    }
+
+    private void lookAtTable(int t) {
+        for (int w = 0; w <= 12; w++) {
+            int what = w;
+            same("table(" + t + ", " + what + ")", () -> x.table(t, what), () -> y.table(t, what));
+        }
+        for (int i = 0; i <= y.table(t, 8); i++) {
+            int call = i;
+            same("calls(" + t + ", " + call + ", 0)", () -> x.calls(t, call, 0), () -> y.calls(t, call, 0));
+            same("calls(" + t + ", " + call + ", 1)", () -> x.calls(t, call, 1), () -> y.calls(t, call, 1));
+        }
+        for (int i = 0; i <= y.table(t, 4) + y.table(t, 5); i++) {
+            for (int w = 0; w <= 2; w++) {
+                int answer = i;
+                int what = w;
+                same("answer(" + t + ", " + answer + ", " + what + ")", () -> x.answer(t, answer, what), () -> y.answer(t, answer, what));
+            }
+        }
+    }
+
+    private void lookAtAtom(int p, int one, int two) {
+        String args = "(" + p + ", " + one + ", " + two;
+        same("value" + args + ")", () -> x.value(p, one, two), () -> y.value(p, one, two));
+        same("stage" + args + ")", () -> x.stage(p, one, two), () -> y.stage(p, one, two));
+        if (y.value(p, one, two) != 1) {
+            return;
+        }
+        int conditions = y.condition(p, one, two, -1, 0);
+        for (int i = -1; i <= conditions && i < 40; i++) {
+            for (int k = -2; k < 4; k++) {
+                int j = i;
+                int l = k;
+                same("condition" + args + ", " + j + ", " + l + ")", () -> x.condition(p, one, two, j, l),
+                        () -> y.condition(p, one, two, j, l));
             }
         }
     }
